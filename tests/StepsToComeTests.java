@@ -80,6 +80,7 @@ final class StepsToComeTests {
         Check.due("17: a wolf behind", Check.party("P404W410W912").drills(), 0);
         Check.due("17: lame and plain", Check.party("P909W510W511").drills(), PassInStep.NONE);
         Check.due("17: a lame one's tread of 0", Check.party("P909W111").drills(), 1);
+        Check.due("17: all by two", Check.party("P303W510W510W510W510W510").drills(), 10);
         Check.due("17: strides of 1 at least", Check.party("P101W112").drills(), PassInStep.NONE);
         Check.due("17: in the sixth step the snow is another one", Check.party("P953W510").drills(), 2);
         Check.due("17: in the seventh it does not matter", Check.party("P963W510").drills(), 0);

@@ -9,7 +9,7 @@ public final class PassInStep {
     private static final int MOST_ACTS = 14, SLOTS = 2;
     private static final int MOST_MARKS = 6, MOST_MARKED_STEP = 20, MOST_MARKED_TREAD = 12;
     private static final int MOST_AHEAD = 20, MOST_WAIT = 24, SOON = 6, RESTING = 8;
-    private static final int MOST_DRILLED = 2, DRILL_CHOICES = 2 * MOST_DRILLED + 1;
+    private static final int MOST_DRILLED = 2, TOO_MANY_DRILLS = MOST_WALKERS * MOST_DRILLED + 1;
     private static final int MOST_DOINGS = 4, TENTHS = 10, MOST_WINTERS = 30;
     private static final int[] FACTORIALS = {1, 1, 2, 6, 24, 120};
 
@@ -565,6 +565,15 @@ public final class PassInStep {
             return NONE;
         }
 
+        int firstStanding() {
+            for (int place = 0; place < told.size(); place++) {
+                if (!isDown(walkerAt(place))) {
+                    return walkerAt(place);
+                }
+            }
+            return NONE;
+        }
+
         /** The tread in the step that comes now, by who is down before it. */
         int treadOf(int walker) {
             boolean somebodyAhead = false;
@@ -721,7 +730,7 @@ public final class PassInStep {
         }
     }
 
-    /** What is to come, tried on a yard of its own. */
+    /** What is to come, tried on another yard, so that nothing changes. */
     private static final class Foresight {
         private final Party told;
         private final Yard now;
@@ -771,61 +780,68 @@ public final class PassInStep {
             return order ? figures : most;
         }
 
+        /**
+         * Nobody drops, if the snow holds the first one and each other one treads as the first one does:
+         * so what the first one drills tells what each other one must, if anything helps it.
+         */
         int fewestDrills() {
-            int choices = 1;
-            for (int walker = 0; walker < told.size(); walker++) {
-                choices = choices * DRILL_CHOICES;
+            int first = now.firstStanding();
+            if (first == NONE) {
+                return 0;
             }
-            int fewest = MOST_WALKERS * MOST_DRILLED + 1;
-            for (int choice = 0; choice < choices; choice++) {
-                int made = drillsOf(choice);
-                if (made < fewest && canMakeDrills(choice) && nobodyDrops()) {
-                    fewest = made;
+            int fewest = TOO_MANY_DRILLS;
+            for (int more = -MOST_DRILLED; more <= MOST_DRILLED; more++) {
+                if (canDrillBy(first, more) && snowHolds(first, more)) {
+                    fewest = Math.min(fewest, Math.abs(more) + drillsOfOthers(first, more));
                 }
             }
-            return fewest > MOST_WALKERS * MOST_DRILLED ? NONE : fewest;
+            return fewest >= TOO_MANY_DRILLS ? NONE : fewest;
         }
 
-        /** How many drills a choice is: each walker has a figure of it, 2 less to 2 more. */
-        private int drillsOf(int choice) {
+        private boolean canDrillBy(int walker, int more) {
+            return isBetween(more, -MOST_DRILLED, MOST_DRILLED)
+                && isBetween(now.strideOf(walker) + more, 1, MOST_STRIDE);
+        }
+
+        private boolean snowHolds(int first, int more) {
+            for (int n = 0; n < SOON; n++) {
+                int t = now.stepNumber() + n;
+                if (!isBetween(now.treadOfOne(first, t) + more, 1, told.snowAt(t))) {
+                    return false;
+                }
+            }
+            return true;
+        }
+
+        private int drillsOfOthers(int first, int more) {
             int made = 0;
-            int rest = choice;
             for (int walker = 0; walker < told.size(); walker++) {
-                made += Math.abs(rest % DRILL_CHOICES - MOST_DRILLED);
-                rest = rest / DRILL_CHOICES;
+                if (walker != first && !now.isDown(walker) && told.kindOf(walker) != WOLF) {
+                    made += drillsToTreadAs(walker, first, more);
+                }
             }
             return made;
         }
 
-        /** Makes the drills of a choice in a new trial, if they can be. */
-        private boolean canMakeDrills(int choice) {
-            trial.copyFrom(now);
-            int rest = choice;
-            for (int walker = 0; walker < told.size(); walker++) {
-                int more = rest % DRILL_CHOICES - MOST_DRILLED;
-                int stride = now.strideOf(walker) + more;
-                if (more != 0 && (now.isDown(walker) || !isBetween(stride, 1, MOST_STRIDE))) {
-                    return false;
+        private int drillsToTreadAs(int walker, int first, int more) {
+            int by = apart(walker, first, 0) + more;
+            for (int n = 1; n < SOON; n++) {
+                if (apart(walker, first, n) + more != by) {
+                    return TOO_MANY_DRILLS;
                 }
-                trial.setStride(walker, stride);
-                rest = rest / DRILL_CHOICES;
             }
-            return true;
+            return canDrillBy(walker, by) ? Math.abs(by) : TOO_MANY_DRILLS;
         }
 
-        private boolean nobodyDrops() {
-            for (int n = 0; n < SOON; n++) {
-                if (trial.takeStep(0) > 0) {
-                    return false;
-                }
-            }
-            return true;
+        /** How much more one treads than a walker does, n steps from now. */
+        private int apart(int walker, int one, int n) {
+            int t = now.stepNumber() + n;
+            return now.treadOfOne(one, t) - now.treadOfOne(walker, t);
         }
 
         int meeting(int one, int other) {
             for (int n = 0; n <= MOST_WAIT; n++) {
-                int t = now.stepNumber() + n;
-                if (now.treadOfOne(one, t) == now.treadOfOne(other, t)) {
+                if (apart(one, other, n) == 0) {
                     return n;
                 }
             }
@@ -864,6 +880,7 @@ public final class PassInStep {
 
         private boolean tryPlainDoing(int what, int last) {
             switch (what) {
+                // A step can always be.
                 case 0: return last == 0 && trial.takeStep(0) >= 0;
                 case 1: return trial.trySwap(last);
                 case 3: return trial.tryRescue(last);
@@ -893,7 +910,7 @@ public final class PassInStep {
         }
     }
 
-    /** Rests, stumbles and winters, tried on a yard of their own. */
+    /** Rests, stumbles and winters, tried on another yard too. */
     private static final class Chances {
         private final Party told;
         private final Yard now;
