@@ -4,7 +4,9 @@ import java.lang.reflect.Modifier;
 import java.nio.charset.StandardCharsets;
 import java.nio.file.Files;
 import java.nio.file.Path;
+import java.util.Map;
 import java.util.Set;
+import java.util.TreeMap;
 import java.util.TreeSet;
 import java.util.regex.Matcher;
 import java.util.regex.Pattern;
@@ -125,6 +127,43 @@ final class LanguageTests {
         }
         Check.due("rule 7: an index is used in at and put alone", indexes - made, 2);
         methodLengths(code);
+        callDepths(code);
+    }
+
+    /** Which names are called in each method; those of one name are taken as one. */
+    private static Map<String, Set<String>> calls(String code) {
+        Map<String, Set<String>> calls = new TreeMap<>();
+        Matcher head = Pattern.compile("(?m)^(?: {4}| {8})(?:\\w+(?:\\[\\])* )*(\\w+)\\([^()]*\\) \\{$").matcher(code);
+        while (head.find()) {
+            String indent = code.charAt(head.start() + 4) == ' ' ? "        " : "    ";
+            String body = code.substring(head.end(), code.indexOf("\n" + indent + "}", head.end()));
+            Set<String> called = calls.computeIfAbsent(head.group(1), name -> new TreeSet<>());
+            Matcher call = Pattern.compile("(?<!Math\\.)(?<!Integer\\.)\\b(\\w+)\\(").matcher(body);
+            while (call.find()) {
+                called.add(call.group(1));
+            }
+        }
+        return calls;
+    }
+
+    private static int depth(Map<String, Set<String>> calls, String name, int above) {
+        int deepest = 0;
+        if (above < 20 && calls.containsKey(name)) {
+            for (String called : calls.get(name)) {
+                deepest = Math.max(deepest, depth(calls, called, above + 1));
+            }
+            return deepest + 1;
+        }
+        return 0;
+    }
+
+    private static void callDepths(String code) {
+        Map<String, Set<String>> calls = calls(code);
+        for (String name : publicNames()) {
+            Check.isTrue("rule 11: " + name + " is found", calls.containsKey(name));
+            int depth = depth(calls, name, 0);
+            Check.isTrue("rules 8, 11: calls of " + name + " go " + depth + " deep", depth <= 8);
+        }
     }
 
     private static void methodLengths(String code) {

@@ -315,11 +315,6 @@ public final class PassInStep {
         }
     }
 
-    /** What is left of a number, 0 or more, by a divisor; nothing by none. */
-    private static int left(int number, int divisor) {
-        return divisor > 0 ? number % divisor : 0;
-    }
-
     private static boolean isBetween(int number, int least, int most) {
         return number >= least && number <= most;
     }
@@ -346,10 +341,11 @@ public final class PassInStep {
 
     /** The tread of one that has nobody ahead. */
     private static int treadAlone(int kind, int stride, int beat, int t) {
+        int left = beat > 0 ? t % beat : 0;
         switch (kind) {
             case LAME: return stride - (t & 1);
-            case WOLF: return stride + (left(t, beat) == 0 ? 1 : 0);
-            case DRUNK: return stride + left(t, beat);
+            case WOLF: return stride + (left == 0 ? 1 : 0);
+            case DRUNK: return stride + left;
             default: return stride;
         }
     }
@@ -597,12 +593,12 @@ public final class PassInStep {
         }
 
         private int treadBehind(int walker, boolean somebodyAhead, int treadAhead, int stumblers) {
-            boolean wolf = told.kindOf(walker) == WOLF;
-            if (wolf && somebodyAhead) {
+            int kind = told.kindOf(walker);
+            if (kind == WOLF && somebodyAhead) {
                 return treadAhead;
             }
-            int stumble = wolf ? 0 : stumblers >> walker & 1;
-            return treadOfOne(walker, steps) + stumble;
+            int stumble = kind == WOLF ? 0 : stumblers >> walker & 1;
+            return treadAlone(kind, strideOf(walker), told.beatOf(walker), steps) + stumble;
         }
 
         /** A step in which those whose bits are set tread 1 more (wolves do not): how many dropped. */
@@ -718,7 +714,7 @@ public final class PassInStep {
         private final int[] cells;
 
         Store(int rows) {
-            cells = new int[Math.max(0, rows) * Yard.CELLS];
+            cells = new int[Math.max(0, Math.min(rows, MOST_ACTS)) * Yard.CELLS];
         }
 
         void save(int row, Yard yard) {
@@ -870,19 +866,17 @@ public final class PassInStep {
         }
 
         private boolean tryDoing(int figures) {
+            int what = figures / 100;
             int middle = figures / 10 % 10;
             int last = figures % 10;
-            if (figures / 100 == 2) {
-                return last <= 1 && trial.tryDrill(middle, last == 1);
+            if (what != 2 && middle != 0) {
+                return false;
             }
-            return middle == 0 && tryPlainDoing(figures / 100, last);
-        }
-
-        private boolean tryPlainDoing(int what, int last) {
             switch (what) {
                 // A step can always be.
                 case 0: return last == 0 && trial.takeStep(0) >= 0;
                 case 1: return trial.trySwap(last);
+                case 2: return last <= 1 && trial.tryDrill(middle, last == 1);
                 case 3: return trial.tryRescue(last);
                 case 4: return told.has(last) && !trial.isDown(last);
                 default: return false;
